@@ -152,7 +152,7 @@ public final class PortableFiles {
         int was = reading.fed.value(i);
         reading.fed.set(i, b);
         if (mends) {
-            Chunks.mendSum(reading.fed, i);
+            reading.fed.mendSum(i);
         }
         return was;
     }
@@ -364,8 +364,17 @@ public final class PortableFiles {
         }
     }
 
-    /** A row of bytes that grows up to its room. */
+    /** A row of bytes that grows up to its room, and how chunks stand in it. */
     private static final class Bytes {
+        static final int FIRST_CHUNK = 8;
+        static final int AROUND_DATA = 12;
+        static final int BEFORE_DATA = 8;
+
+        private static final int DATA_MOST = 255;
+
+        /** The bytes that every file begins with. */
+        private static final int[] BEGINNING = {137, 80, 78, 71, 13, 10, 26, 10};
+
         /** What four bits do to a sum: the steps of 0xEDB88320, four at a time. */
         private static final int[] SUM_STEPS = {
             0x00000000, 0x1db71064, 0x3b6e20c8, 0x26d930ac,
@@ -379,7 +388,6 @@ public final class PortableFiles {
 
         Bytes(int room) {
             values = new int[room < 0 ? 0 : room];
-            count = 0;
         }
 
         void clear() {
@@ -425,74 +433,65 @@ public final class PortableFiles {
             add(number & 255);
         }
 
-        int sum(int from, int end) {
-            int sum = -1;
-            for (int i = from; i < end; i++) {
-                sum = sum ^ value(i);
-                sum = sum >>> 4 ^ SUM_STEPS[sum & 15];
-                sum = sum >>> 4 ^ SUM_STEPS[sum & 15];
-            }
-            return ~sum;
-        }
-    }
-
-    /** How chunks stand in a row of bytes. */
-    private static final class Chunks {
-        static final int FIRST_PLACE = 8;
-        static final int LENGTH_MOST = 255;
-        static final int AROUND_DATA = 12;
-        static final int BEFORE_DATA = 8;
-
-        /** The bytes that every file begins with. */
-        private static final int[] BEGINNING = {137, 80, 78, 71, 13, 10, 26, 10};
-
-        static void addBeginning(Bytes bytes) {
+        void addBeginning() {
             for (int i = 0; i < BEGINNING.length; i++) {
-                bytes.add(BEGINNING[i]);
+                add(BEGINNING[i]);
             }
         }
 
-        static boolean hasBeginning(Bytes bytes) {
+        boolean hasBeginning() {
             for (int i = 0; i < BEGINNING.length; i++) {
-                if (!bytes.has(i) || bytes.value(i) != BEGINNING[i]) {
+                if (!has(i) || value(i) != BEGINNING[i]) {
                     return false;
                 }
             }
             return true;
         }
 
-        static boolean lengthMayBe(int length) {
-            return length >= 0 && length <= LENGTH_MOST;
+        static boolean dataLengthMayBe(int length) {
+            return length >= 0 && length <= DATA_MOST;
         }
 
-        static boolean isWhole(Bytes bytes, int place, int length) {
-            return bytes.count - place >= AROUND_DATA + length;
+        boolean hasWholeChunk(int place, int length) {
+            return count - place >= AROUND_DATA + length;
         }
 
-        static int sumPlace(int place, int length) {
-            return place + BEFORE_DATA + length;
+        boolean sumIsRight(int place, int length) {
+            return number(sumPlace(place, length)) == rightSum(place, length);
         }
 
-        static int sumOf(Bytes bytes, int place, int length) {
-            return bytes.sum(place + 4, sumPlace(place, length));
+        /** The sum that the chunk at a place should have: of its letters and data. */
+        int rightSum(int place, int length) {
+            int end = sumPlace(place, length);
+            int sum = -1;
+            for (int i = place + 4; i < end; i++) {
+                sum = sum ^ value(i);
+                sum = sum >>> 4 ^ SUM_STEPS[sum & 15];
+                sum = sum >>> 4 ^ SUM_STEPS[sum & 15];
+            }
+            return ~sum;
         }
 
         /** Makes the sum right of the chunk that byte i is in, if chunks can be told as far as there. */
-        static void mendSum(Bytes bytes, int i) {
+        void mendSum(int i) {
             int length = 0;
-            for (int place = FIRST_PLACE; place <= i; place += AROUND_DATA + length) {
-                if (!isWhole(bytes, place, 0)) {
+            for (int place = FIRST_CHUNK; place <= i; place += AROUND_DATA + length) {
+                if (!hasWholeChunk(place, 0)) {
                     return;
                 }
-                length = bytes.number(place);
-                if (!lengthMayBe(length) || !isWhole(bytes, place, length)) {
+                length = number(place);
+                if (!dataLengthMayBe(length) || !hasWholeChunk(place, length)) {
                     return;
                 }
                 if (i < place + AROUND_DATA + length) {
-                    bytes.setNumber(sumPlace(place, length), sumOf(bytes, place, length));
+                    setNumber(sumPlace(place, length), rightSum(place, length));
                     return;
                 }
             }
+        }
+
+        private static int sumPlace(int place, int length) {
+            return place + BEFORE_DATA + length;
         }
     }
 
@@ -694,7 +693,9 @@ public final class PortableFiles {
             there = true;
             width = newWidth;
             height = newHeight;
-            become(newKind, newBits);
+            bits = newBits;
+            kind = newKind;
+            channels = Shape.channelsOf(newKind);
             Arrays.fill(samples, 0);
             palette.clear();
             tags.clear();
@@ -735,7 +736,9 @@ public final class PortableFiles {
             there = other.there;
             width = other.width;
             height = other.height;
-            become(other.kind, other.bits);
+            bits = other.bits;
+            kind = other.kind;
+            channels = other.channels;
             System.arraycopy(other.samples, 0, samples, 0, samples.length);
             palette.copyFrom(other.palette);
             tags.copyFrom(other.tags);
@@ -935,7 +938,7 @@ public final class PortableFiles {
 
         void run(Picture p) {
             out.clear();
-            Chunks.addBeginning(out);
+            out.addBeginning();
             addHead(p);
             addTags(p.tags);
             if (p.kind == Shape.PALETTED) {
@@ -956,9 +959,9 @@ public final class PortableFiles {
         }
 
         private void close() {
-            int length = out.count - opened - Chunks.BEFORE_DATA;
+            int length = out.count - opened - Bytes.BEFORE_DATA;
             out.setNumber(opened, length);
-            out.addNumber(Chunks.sumOf(out, opened, length));
+            out.addNumber(out.rightSum(opened, length));
         }
 
         private void addHead(Picture p) {
@@ -1070,22 +1073,23 @@ public final class PortableFiles {
 
         void run() {
             begin();
-            fault = Chunks.hasBeginning(fed) ? NO_FAULT : CUT;
-            if (fault == NO_FAULT) {
-                place = Chunks.FIRST_PLACE;
-                // every chunk takes some bytes, so there are fewer chunks than bytes
-                for (int n = 0; n < FED_MOST && fault == NO_FAULT && !isWhole; n++) {
-                    fault = readChunk();
-                    if (fault == NO_FAULT) {
-                        place += Chunks.AROUND_DATA + length;
-                    }
+            // every chunk takes some bytes, so there are fewer chunks than bytes
+            for (int n = 0; n < FED_MOST && fault == NO_FAULT && !isWhole; n++) {
+                fault = readChunk();
+                if (fault == NO_FAULT && letters == Letters.IEND) {
+                    fault = end();
+                }
+                if (fault == NO_FAULT) {
+                    place += Bytes.AROUND_DATA + length;
                 }
             }
         }
 
         private void begin() {
+            boolean hasBeginning = fed.hasBeginning();
             isWhole = false;
-            place = 0;
+            fault = hasBeginning ? NO_FAULT : CUT;
+            place = hasBeginning ? Bytes.FIRST_CHUNK : 0;
             chunks = 0;
             leftOut = 0;
             rowBytes = 0;
@@ -1102,7 +1106,7 @@ public final class PortableFiles {
             if (broken != NO_FAULT) {
                 return broken;
             }
-            if (fed.number(Chunks.sumPlace(place, length)) != Chunks.sumOf(fed, place, length)) {
+            if (!fed.sumIsRight(place, length)) {
                 return leaveOut();
             }
             if (orderIsWrong()) {
@@ -1116,18 +1120,18 @@ public final class PortableFiles {
             }
             chunks++;
             noteRowsEnd();
-            return letters == Letters.IEND ? end() : NO_FAULT;
+            return NO_FAULT;
         }
 
         private int frameFault() {
-            if (!Chunks.isWhole(fed, place, 0)) {
+            if (!fed.hasWholeChunk(place, 0)) {
                 return CUT;
             }
             length = fed.number(place);
-            if (!Chunks.lengthMayBe(length)) {
+            if (!Bytes.dataLengthMayBe(length)) {
                 return LENGTH;
             }
-            if (!Chunks.isWhole(fed, place, length)) {
+            if (!fed.hasWholeChunk(place, length)) {
                 return CUT;
             }
             letters = fed.number(place + 4);
@@ -1187,7 +1191,7 @@ public final class PortableFiles {
 
         /** Takes a chunk's data in: whether they are right. */
         private boolean takeIn() {
-            int data = place + Chunks.BEFORE_DATA;
+            int data = place + Bytes.BEFORE_DATA;
             switch (letters) {
                 case Letters.IHDR:
                     return takeHead(data);

@@ -53,6 +53,17 @@ public final class ReduceTest {
         x.put(2, 2, 0, 8);
         Check.due("all equal", x.reduce(), 8);
         Check.due("grey", x.put(2, 2, 0, 8), 8);
+        for (int[] first : new int[][] {{0, 0}, {0, 2}, {2, 0}}) {
+            PortableFiles y = filled(3, 3, 8, 2, 9, 9, 9);
+            y.put(first[0], first[1], 1, 8);
+            Check.due("a corner", y.reduce(), 28);
+            PortableFiles z = filled(3, 3, 8, 6, 9, 9, 9, 255);
+            z.put(first[0], first[1], 3, 0);
+            Check.due("a corner's alpha", z.reduce(), 68);
+            PortableFiles g = filled(3, 3, 8, 0, 255);
+            g.put(first[0], first[1], 0, 1);
+            Check.due("a corner's grey", g.reduce(), 8);
+        }
         Check.due("through both", filled(1, 1, 8, 6, 170, 170, 170, 255).reduce(), 2);
         Check.due("grey with alpha stays", filled(1, 1, 8, 6, 170, 170, 170, 0).reduce(), 68);
     }

@@ -87,6 +87,10 @@ public final class WriteTest {
         PortableFiles x = new PortableFiles();
         x.head(1, 1, 4, 3);
         Check.dueThrow("no entry", Check.STATE, () -> x.write());
+        x.colour(1, 2, 3, 0);
+        dueFile("one entry", x, ChunkFile.head(1, 1, 4, 3)
+                .chunk("PLTE", 1, 2, 3).chunk("tRNS", 0).chunk("IDAT", 0, 0).chunk("IEND"));
+        x.head(1, 1, 4, 3);
         x.colour(1, 2, 3, 255);
         x.colour(4, 5, 6, 255);
         dueFile("full alphas", x, ChunkFile.head(1, 1, 4, 3)
