@@ -864,13 +864,19 @@ public final class PortableFiles {
 
         private static void lessenGreyBits(Picture p) {
             for (int bits = 1; bits < p.bits; bits = 2 * bits) {
-                int step = Shape.greatest(p.bits) / Shape.greatest(bits);
+                int step = stepOf(p.bits, bits);
                 if (allAreTimes(p, step)) {
                     divideAll(p, step);
                     p.become(Shape.GREY, bits);
                     return;
                 }
             }
+        }
+
+        /** What 1 of the fewer bits is in the bits before: 255, 85 or 17 for 8 bits. */
+        private static int stepOf(int before, int fewer) {
+            int greatest = Shape.greatest(fewer);
+            return greatest > 0 ? Shape.greatest(before) / greatest : 0;
         }
 
         private static void lessenPaletteBits(Picture p) {

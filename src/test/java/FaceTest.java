@@ -39,6 +39,7 @@ public final class FaceTest {
     }
 
     private static void theFaceIsTheDocuments() {
+        Check.sentence("The public face");
         Check.due("NONE", PortableFiles.NONE, -1);
         Check.due("modifiers", Modifier.toString(PortableFiles.class.getModifiers()), "public final");
         Set<String> methods = new TreeSet<>();
@@ -62,6 +63,7 @@ public final class FaceTest {
     }
 
     private static void privateMethodsHaveOtherNames() {
+        Check.sentence("The public face");
         Set<String> names = new TreeSet<>();
         for (Method m : PortableFiles.class.getMethods()) {
             names.add(m.getName());
@@ -75,6 +77,7 @@ public final class FaceTest {
     }
 
     private static void aNewObjectHasNoPicture() {
+        Check.sentence("No picture.");
         PortableFiles x = new PortableFiles();
         Check.dueThrow("colour", Check.STATE, () -> x.colour(-1, 0, 0, 0));
         Check.dueThrow("put", Check.STATE, () -> x.put(-1, 0, 0, -1));
@@ -90,6 +93,7 @@ public final class FaceTest {
     }
 
     private static void aNewObjectHasNothingReadWrittenOrFed() {
+        Check.sentence("nothing was READ");
         PortableFiles x = new PortableFiles();
         Check.dueThrow("at", Check.STATE, () -> x.at(-1, 0, 0));
         Check.dueThrow("found", Check.STATE, () -> x.found(99));
