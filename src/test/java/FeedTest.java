@@ -12,6 +12,7 @@ public final class FeedTest {
         alterNeedsItsByte();
         alterNeedsAByte();
         mendsMakeTheSumRight();
+        mendsEndWithTheChunk();
         mendsTouchNothingElse();
         mendsNeedWholeChunks();
         mendsNeedFewBytes();
@@ -232,6 +233,25 @@ public final class FeedTest {
         x.alter(19, 1, true);
         x.alter(58, 0, true);
         Check.due("the last byte of the last chunk", x.read(), 3);
+    }
+
+    private static void mendsEndWithTheChunk() {
+        Check.sentence("the SUM of the chunk it is in");
+        int[] first = {8, 33, 47};
+        int[] last = {32, 46, 58};
+        for (int k = 0; k < 3; k++) {
+            for (int i : new int[] {first[k], last[k]}) {
+                PortableFiles x = fed();
+                for (int sum : last) {
+                    x.alter(sum - 3, x.byteAt(sum - 3) ^ 1, false);
+                }
+                x.alter(i, x.byteAt(i), true);
+                for (int j = 0; j < 3; j++) {
+                    int due = x.byteAt(last[j] - 3) ^ (j == k ? 0 : 1);
+                    Check.due("byte " + i + " and the sum of chunk " + j, x.alter(last[j] - 3, 0, false), due);
+                }
+            }
+        }
     }
 
     private static void mendsTouchNothingElse() {
