@@ -1,7 +1,6 @@
 import java.util.ArrayList;
 import java.util.Arrays;
 import java.util.List;
-import java.util.zip.CRC32;
 
 /** Promises 9, 13 and 14 on many files: what the class writes and reads against PlainReader. */
 public final class ModelTest {
@@ -67,7 +66,7 @@ public final class ModelTest {
             Check.due("alter", x.alter(i, b, mends), bytes[i]);
             bytes[i] = b;
             if (mends) {
-                mend(bytes, i);
+                PlainReader.mend(bytes, i);
             }
         }
         sameReading(ChunkFile.hex(bytes), x, new PlainReader(bytes));
@@ -76,27 +75,6 @@ public final class ModelTest {
     private static int[] writtenBy(PortableFiles x) {
         x.write();
         return ChunkFile.written(x);
-    }
-
-    private static void mend(int[] bytes, int i) {
-        int place = 8;
-        while (i >= place && place + 12 <= bytes.length && PlainReader.number(bytes, place) < 256) {
-            int end = place + 12 + bytes[place + 3];
-            if (end > bytes.length) {
-                return;
-            }
-            if (i < end) {
-                CRC32 sum = new CRC32();
-                for (int k = place + 4; k < end - 4; k++) {
-                    sum.update(bytes[k]);
-                }
-                for (int k = 0; k < 4; k++) {
-                    bytes[end - 4 + k] = (int) (sum.getValue() >> 24 - 8 * k & 255);
-                }
-                return;
-            }
-            place = end;
-        }
     }
 
     private static void madeFilesAreRead(Numbers numbers) {

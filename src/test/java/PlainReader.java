@@ -79,6 +79,28 @@ final class PlainReader {
         return ((long) v[i] << 24) + (v[i + 1] << 16) + (v[i + 2] << 8) + v[i + 3];
     }
 
+    /** Makes the sum right of the chunk that byte i is in, if whole chunks lead up to it. */
+    static void mend(int[] bytes, int i) {
+        int place = 8;
+        while (i >= place && place + 12 <= bytes.length && number(bytes, place) < 256) {
+            int end = place + 12 + bytes[place + 3];
+            if (end > bytes.length) {
+                return;
+            }
+            if (i < end) {
+                CRC32 sum = new CRC32();
+                for (int k = place + 4; k < end - 4; k++) {
+                    sum.update(bytes[k]);
+                }
+                for (int k = 0; k < 4; k++) {
+                    bytes[end - 4 + k] = (int) (sum.getValue() >> 24 - 8 * k & 255);
+                }
+                return;
+            }
+            place = end;
+        }
+    }
+
     private int next(int[] bytes) {
         int left = bytes.length - place;
         if (left < 12) {
